@@ -14,12 +14,15 @@ public final class TypeBench {
     private static final int DEEPEST = 40;
     // A text makes at most 1,000 unknowns, half as many arrows for them, and some 1,500 nodes more.
     private static final int MOST_NODES = 4096;
+    // Every text's first node: all units are this one.
+    private static final int UNIT_NODE = 0;
+    // A term of 60 bytes and the types in it nest some hundred deep, with two tasks a level.
     private static final int MOST_TASKS = 1024;
     // Far above what any text needs: two types that are compared have some thousand parts at most.
     private static final int MOST_STEPS = 1000000;
     private static final int LONGEST_ROW = 2147483647;
 
-    // Kinds of types. The unit is always the first node.
+    // Kinds of types.
     private static final int UNIT = 0;
     private static final int ARROW = 1;
     private static final int FOR_ALL = 2;
@@ -437,7 +440,7 @@ public final class TypeBench {
             }
             if (sign == '1') {
                 next++;
-                return UNIT;
+                return UNIT_NODE;
             }
             if (sign == '!') {
                 return forAll(level);
@@ -744,7 +747,7 @@ public final class TypeBench {
         private void find(int term) {
             switch (nodes.kind(term)) {
                 case ONE:
-                    found = UNIT;
+                    found = UNIT_NODE;
                     break;
                 case LETTER:
                     put(ANSWER, context.typeOfLast(nodes.left(term)), 0);
