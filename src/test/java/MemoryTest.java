@@ -16,9 +16,12 @@ public final class MemoryTest {
         Bench check = new Bench();
         if (ManagementFactory.getThreadMXBean() instanceof ThreadMXBean counter
                 && counter.isThreadAllocatedMemorySupported() && counter.isThreadAllocatedMemoryEnabled()) {
-            // The first round loads classes, and is not counted.
-            round(counter);
-            check.due("bytes that 35 texts made", round(counter), 0);
+            // The machine itself makes an object now and then, when it loads a class for one.
+            long least = Long.MAX_VALUE;
+            for (int i = 0; i < 10; i++) {
+                least = Math.min(least, round(counter));
+            }
+            check.due("bytes that 35 texts made", least, 0);
         }
         check.end();
     }
